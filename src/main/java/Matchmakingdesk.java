@@ -34,7 +34,7 @@ public final class Matchmakingdesk {
     private static final int APART_NODES = MOST_TERMS;
     private static final int FREE_NODES = APART_NODES + NAMES;
     private static final int MOST_NODES = 8192;
-    private static final int BUCKETS = 1024;
+    private static final int BUCKETS = 256;
     // Sizes stop here, so that no sum of two of them wraps around.
     private static final int HUGE = 1000000;
     // No side that is looked at part by part has more than MOST_SIDE letters, so none is deeper.
@@ -67,7 +67,7 @@ public final class Matchmakingdesk {
     private final Endless endless = new Endless(terms);
     private final Desk desk = new Desk();
     private final Past past = new Past();
-    private final StringBuilder words = new StringBuilder(512);
+    private final StringBuilder words = new StringBuilder();
     private int blanks;
     private int knocks;
 
@@ -882,7 +882,7 @@ public final class Matchmakingdesk {
         }
 
         private int bucketOf(int sign, int first, int second) {
-            return (sign * 7 + first * 31 + second * 1021) & (BUCKETS - 1);
+            return (sign * 7 + first * 31 + second * 61) & (BUCKETS - 1);
         }
 
         /** All nodes that are not kept go. The last one hung up stands first in its chain, so they go backward. */
@@ -1611,23 +1611,18 @@ public final class Matchmakingdesk {
             int second = terms.secondOf(pattern);
             int targetFirst = terms.firstOf(target);
             int targetSecond = terms.secondOf(target);
-            if ((terms.namesOf(first) & ~filling.names) == 0) {
-                return turnBeside(first, targetFirst, targetSecond);
+            boolean isFirstOpen = (terms.namesOf(first) & ~filling.names) != 0;
+            boolean isSecondOpen = (terms.namesOf(second) & ~filling.names) != 0;
+            if (isFirstOpen && isSecondOpen) {
+                return Terms.isAlike(terms, null, targetFirst, targetSecond, 0)
+                        ? STRAIGHT : addChoice(pattern, target);
             }
-            if ((terms.namesOf(second) & ~filling.names) == 0) {
-                return turnBeside(second, targetSecond, targetFirst);
-            }
-            if (!Terms.isAlike(terms, null, targetFirst, targetSecond, 0)) {
-                return addChoice(pattern, target);
-            }
-            return STRAIGHT;
-        }
-
-        private int turnBeside(int ready, int ahead, int across) {
-            if (Terms.isAlike(terms, filling, ready, ahead, 0)) {
+            int ready = isFirstOpen ? second : first;
+            if (Terms.isAlike(terms, filling, ready, isFirstOpen ? targetSecond : targetFirst, 0)) {
                 return STRAIGHT;
             }
-            return Terms.isAlike(terms, filling, ready, across, 0) ? CROSSED : NONE;
+            return Terms.isAlike(terms, filling, ready, isFirstOpen ? targetFirst : targetSecond, 0)
+                    ? CROSSED : NONE;
         }
 
         private int addChoice(int pattern, int target) {

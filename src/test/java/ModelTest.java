@@ -15,7 +15,7 @@ public final class ModelTest {
     private static int wrong = 0;
 
     public static void main(String[] args) {
-        int runs = args.length > 0 ? Integer.parseInt(args[0]) : 400;
+        int runs = args.length > 0 ? Integer.parseInt(args[0]) : 1000;
         long seed = args.length > 1 ? Long.parseLong(args[1]) : 1;
         Map<String, Integer> seen = new TreeMap<>();
         for (int run = 0; run < runs && wrong < 10; run++) {
@@ -140,13 +140,18 @@ public final class ModelTest {
             }
             int dice = below(40);
             if (dice == 0) {
-                return below(2) == 0 ? -1 - below(3) : count + below(3);
+                return below(5) == 0 ? far() : below(2) == 0 ? -1 - below(3) : count + below(3);
             }
             return dice < 22 && count > 8 ? count - 1 - below(Math.min(count - 8, 8)) : below(count);
         }
 
+        int far() {
+            int[] all = {Integer.MIN_VALUE, Integer.MAX_VALUE, -9, 1 << 16};
+            return all[below(4)];
+        }
+
         int aName() {
-            return below(30) == 0 ? (below(2) == 0 ? -1 : 6) : below(kind == 1 ? 3 : 6);
+            return below(90) == 0 ? far() : below(30) == 0 ? (below(2) == 0 ? -1 : 6) : below(kind == 1 ? 3 : 6);
         }
 
         int aSign() {
@@ -255,6 +260,37 @@ public final class ModelTest {
             int a = turned(shape);
             int b = turned(below(4) == 0 ? 3 + below(5) : shape);
             askBoth(a, b);
+            if (model.terms.size() < 40) {
+                patternScene(below(2) == 0 ? a : b);
+            }
+        }
+
+        /** A pattern that fits the term by turning, or nearly so. */
+        void patternScene(int number) {
+            Map<String, Integer> names = new TreeMap<>();
+            int pattern = pattern(model.terms.get(number), names);
+            same("cases(" + pattern + "," + number + ",true)", () -> desk.cases(pattern, number, true),
+                    () -> model.cases(pattern, number, true));
+            same("cases(" + number + "," + pattern + ",false)", () -> desk.cases(number, pattern, false),
+                    () -> model.cases(number, pattern, false));
+            same("match(" + pattern + "," + number + ")", () -> desk.match(pattern, number),
+                    () -> model.match(pattern, number));
+            same("ways(" + pattern + "," + number + ")", () -> desk.ways(pattern, number),
+                    () -> model.ways(pattern, number));
+        }
+
+        int pattern(Term term, Map<String, Integer> names) {
+            if (names.containsKey(term.turnedText()) || below(4) == 0 && names.size() < 6) {
+                names.putIfAbsent(term.turnedText(), 2 + names.size());
+                return below(20) == 0 ? leaf() : names.get(term.turnedText());
+            }
+            if (term.parts().isEmpty()) {
+                return model.terms.indexOf(term);
+            }
+            boolean isTurned = term.head() == 'c' && below(3) == 0;
+            int first = pattern(term.parts().get(isTurned ? 1 : 0), names);
+            int second = term.head() == 'f' ? 0 : pattern(term.parts().get(isTurned ? 0 : 1), names);
+            return made("abfgc".indexOf(term.head()), first, second);
         }
 
         /** Of c and a few leaves. */
@@ -340,7 +376,7 @@ public final class ModelTest {
                     same("ways" + both, () -> desk.ways(a, b), () -> model.ways(a, b));
                     break;
                 case 7:
-                    int nth = below(4) - (below(9) == 0 ? 1 : 0);
+                    int nth = below(20) == 0 ? far() : below(4) - (below(9) == 0 ? 1 : 0);
                     same("way(" + a + "," + b + "," + nth + ")", () -> desk.way(a, b, nth), () -> model.way(a, b, nth));
                     break;
                 default:
@@ -365,13 +401,13 @@ public final class ModelTest {
                 int most = below(9) == 0 ? below(2) * 21 : below(2) == 0 ? 20 : 1 + below(20);
                 same("steps(" + most + ")", () -> desk.steps(most), () -> model.steps(most));
             } else if (dice < 18) {
-                int k = below(model.now.row.size() + 2) - (below(9) == 0 ? 1 : 0);
+                int k = below(40) == 0 ? far() : below(model.now.row.size() + 2) - (below(9) == 0 ? 1 : 0);
                 same("equation(" + k + ")", () -> desk.equation(k), () -> model.equation(k));
             } else if (dice < 19) {
                 int name = aName();
                 same("solved(" + name + ")", () -> desk.solved(name), () -> model.solved(name));
             } else if (dice < 22) {
-                int k = below(model.now.unlike.size() + 1) - (below(9) == 0 ? 1 : 0);
+                int k = below(40) == 0 ? far() : below(model.now.unlike.size() + 1) - (below(9) == 0 ? 1 : 0);
                 same("stays(" + k + ")", () -> desk.stays(k), () -> model.stays(k));
             } else if (below(3) == 0 || model.now.state > 1) {
                 same("clear()", desk::clear, model::clear);
@@ -404,7 +440,7 @@ public final class ModelTest {
 
         void shelf() {
             int a = aTerm();
-            int place = below(model.now.shelf.size() + 1) - (below(9) == 0 ? 1 : 0);
+            int place = below(40) == 0 ? far() : below(model.now.shelf.size() + 1) - (below(9) == 0 ? 1 : 0);
             switch (below(9)) {
                 case 0:
                     same("lift(" + place + ")", () -> desk.lift(place), () -> model.lift(place));
@@ -437,7 +473,7 @@ public final class ModelTest {
                     same("ofTerm(" + a + "," + asked + ")", () -> desk.ofTerm(a, asked), () -> model.ofTerm(a, asked));
                     break;
                 case 2:
-                    int place = below(28) - 1;
+                    int place = below(20) == 0 ? far() : below(28) - 1;
                     same("part(" + a + "," + place + ")", () -> desk.part(a, place), () -> model.part(a, place));
                     break;
                 case 3:

@@ -562,6 +562,14 @@ public final class PromisesTest {
         due(great.stays(0), -9);
         due(great.stays(1), 0);
         due(great.stays(2), 2);
+        // RULE 6 for z, while another side has more than 40 already.
+        Matchmakingdesk ahead = new Matchmakingdesk();
+        ahead.equal(2, of(ahead, fs(21, "a")));
+        ahead.unlike(of(ahead, "g(g(z,z),g(x,x))"), of(ahead, "g(g(u,a),w)"));
+        ahead.unlike(of(ahead, "g(z,g(x,x))"), of(ahead, "g(u,w)"));
+        ahead.steps(20);
+        due(ahead.stays(0), -9);
+        due(ahead.stays(1), 0);
     }
 
     private static void unify() {
@@ -631,6 +639,9 @@ public final class PromisesTest {
         due(desk.cases(of(desk, "c(x,f(y))"), one, true), 3);
         due(desk.cases(of(desk, "c(c(x,y),x)"), of(desk, "c(a,c(b,a))"), true), 1);
         due(desk.cases(of(desk, "c(c(x,y),x)"), of(desk, "c(f(a),c(b,a))"), true), 0);
+        // x is a, and stays so when y has been tried the other way round.
+        due(desk.cases(of(desk, "g(x,c(y,c(x,y)))"), of(desk, "g(a,c(c(b,b),b))"), true), 0);
+        due(desk.cases(of(desk, "g(x,c(y,c(x,y)))"), of(desk, "g(a,c(c(b,a),b))"), true), 1);
         due(desk.cases(of(desk, "g(x,x)"), of(desk, "g(c(a,b),c(b,a))"), true), 1);
         due(desk.cases(of(desk, "g(x,x)"), of(desk, "g(c(a,b),c(b,a))"), false), 0);
         refused(desk, BOUNDS, () -> desk.cases(-1, 0, true));
