@@ -134,7 +134,7 @@ public final class Matchmakingdesk {
     public int fill(int name, int term) throws IllegalArgumentException, IndexOutOfBoundsException {
         needName(name);
         needTerm(term);
-        past.record(desk);
+        past.remember(desk);
         desk.fillBy[name] = term;
         return desk.countFills();
     }
@@ -145,7 +145,7 @@ public final class Matchmakingdesk {
         if (desk.fillBy[name] == NONE) {
             throw new NoSuchElementException("no such fill");
         }
-        past.record(desk);
+        past.remember(desk);
         desk.fillBy[name] = NONE;
         return desk.countFills();
     }
@@ -188,7 +188,7 @@ public final class Matchmakingdesk {
         if (desk.equations >= MOST_EQUATIONS) {
             throw new IllegalStateException("too many equations");
         }
-        past.record(desk);
+        past.remember(desk);
         desk.addEquation(terms, term, other);
         if (desk.state == SOLVED) {
             desk.state = OPEN;
@@ -203,14 +203,14 @@ public final class Matchmakingdesk {
         if (desk.unlikes >= MOST_UNLIKE) {
             throw new IllegalStateException("too many pairs");
         }
-        past.record(desk);
+        past.remember(desk);
         desk.addUnlike(term, other);
         return desk.unlikes;
     }
 
     /** Promise 15. */
     public int step() {
-        past.record(desk);
+        past.remember(desk);
         loadRow();
         int rule = row.advance();
         desk.store(row, terms);
@@ -222,7 +222,7 @@ public final class Matchmakingdesk {
         if (most < 1 || most > MOST_STEPS) {
             throw new IllegalArgumentException("no such number of steps");
         }
-        past.record(desk);
+        past.remember(desk);
         loadRow();
         int done = 0;
         while (done < most && row.advance() != 0) {
@@ -234,7 +234,7 @@ public final class Matchmakingdesk {
 
     /** Promise 17. */
     public int clear() {
-        past.record(desk);
+        past.remember(desk);
         int were = desk.equations;
         desk.dropEquations();
         return were;
@@ -396,7 +396,7 @@ public final class Matchmakingdesk {
         if (desk.laid >= MOST_SHELF) {
             throw new IllegalStateException("the shelf is full");
         }
-        past.record(desk);
+        past.remember(desk);
         desk.addToShelf(term);
         return desk.laid;
     }
@@ -404,7 +404,7 @@ public final class Matchmakingdesk {
     /** Promise 31. */
     public int lift(int place) throws IndexOutOfBoundsException {
         needPlace(place);
-        past.record(desk);
+        past.remember(desk);
         return desk.takeOff(place);
     }
 
@@ -851,9 +851,6 @@ public final class Matchmakingdesk {
 
         /** The node with that sign and those parts; NONE if a part is none, or no room is left. */
         private int made(int sign, int first, int second) {
-            if (sign == SIGN_A || sign == SIGN_B) {
-                return sign;
-            }
             int right = sign == SIGN_F ? NONE : second;
             if (!isNode(first) || sign != SIGN_F && !isNode(right)) {
                 return NONE;
@@ -1500,7 +1497,7 @@ public final class Matchmakingdesk {
             }
         }
 
-        private void record(Desk desk) {
+        private void remember(Desk desk) {
             desks[(start + count) % MOST_UNDO].take(desk);
             if (count < MOST_UNDO) {
                 count++;

@@ -699,6 +699,11 @@ public final class PromisesTest {
         int three = of(desk, "g(g(c(x,y),c(z,u)),g(c(v,w),c(x,y)))");
         int met = of(desk, "g(g(c(a,b),c(a,b)),g(c(a,b),c(a,b)))");
         due(desk.ways(three, met), 8);
+        // Alike by turning, it goes by RULE 1; turned part by part, there would be 32 rows.
+        int ab = of(desk, "c(c(c(a,b),c(a,b)),c(c(a,b),c(a,b)))");
+        int ba = of(desk, "c(c(c(b,a),c(b,a)),c(c(b,a),c(b,a)))");
+        due(desk.ways(ab, ba), 1);
+        due(desk.way(ab, ba, 0), "");
         // The last c alone ends in three rows: a=a and c(a,b)=c(a,a) either way, and a=c(a,a). All clash.
         int left24 = of(desk, "g(c(x,y),g(c(z,u),g(c(v,w),c(a,c(a,b)))))");
         int right24 = of(desk, "g(c(a,b),g(c(a,b),g(c(a,b),c(a,c(a,a)))))");
@@ -939,6 +944,15 @@ public final class PromisesTest {
         due(desk.undo(), 0);
         due(desk.house(7), 1);
         due(desk.house(8), 1);
+        // Pairs that were cleared come back, whatever has come in their place.
+        desk.unlike(5, 5);
+        desk.clear();
+        desk.unlike(0, 1);
+        due(desk.undo(), 2);
+        due(desk.undo(), 1);
+        desk.step();
+        due(desk.stays(0), 2);
+        desk.clear();
         // A long row comes back as it was.
         desk.equal(of(desk, "g(c(x,f(a)),b)"), of(desk, "g(y,u)"));
         desk.step();
