@@ -642,6 +642,9 @@ public final class PromisesTest {
         // x is a, and stays so when y has been tried the other way round.
         due(desk.cases(of(desk, "g(x,c(y,c(x,y)))"), of(desk, "g(a,c(c(b,b),b))"), true), 0);
         due(desk.cases(of(desk, "g(x,c(y,c(x,y)))"), of(desk, "g(a,c(c(b,a),b))"), true), 1);
+        // What one call left untried is nothing to the next one.
+        due(desk.cases(of(desk, "c(x,y)"), of(desk, "c(a,b)"), true), 1);
+        due(desk.cases(of(desk, "f(x)"), of(desk, "g(a,b)"), true), 0);
         due(desk.cases(of(desk, "g(x,x)"), of(desk, "g(c(a,b),c(b,a))"), true), 1);
         due(desk.cases(of(desk, "g(x,x)"), of(desk, "g(c(a,b),c(b,a))"), false), 0);
         refused(desk, BOUNDS, () -> desk.cases(-1, 0, true));
@@ -934,7 +937,10 @@ public final class PromisesTest {
         desk.fill(3, 0);
         desk.unfill(3);
         desk.lift(1);
-        due(desk.house(6), 3);
+        desk.lay(7);
+        due(desk.house(6), 4);
+        due(desk.undo(), 3);
+        due(desk.house(5), 1);
         due(desk.undo(), 2);
         due(desk.shelf(1), 1);
         due(desk.undo(), 1);
