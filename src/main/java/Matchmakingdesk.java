@@ -37,7 +37,8 @@ public final class Matchmakingdesk {
     private static final int BUCKETS = 256;
     // Sizes stop here, so that no sum of two of them wraps around.
     private static final int HUGE = 1000000;
-    // No side that is looked at part by part has more than MOST_SIDE letters, so none is deeper.
+    // What is looked at part by part has no more than MOST_SIDE letters, or is filled by a row without a ring:
+    // then no kept term comes twice on a way down, and so none is deeper.
     private static final int DEEPEST = 48;
     private static final int FAR_BOUND = 1000000;
     // A row holds six solved equations, the ones not begun, and what waits on one way down: never 256.
@@ -1317,14 +1318,17 @@ public final class Matchmakingdesk {
             setOne(place + 1, left, right);
         }
 
-        /** GREAT, if a side would be too big: then all stays as it is, so it is looked at first. */
+        /**
+         * GREAT, if a side would be too big: then all stays as it is, so it is looked at first.
+         * A side that the name does not stand in is the same node as before, and counts for nothing, however big.
+         */
         private void putIntoOthers() {
             single.empty();
             single.give(terms.nameOf(left(place)), right(place));
             for (int k = 0; k < count; k++) {
-                if (k != place && (isTooBig(lefts[k]) || isTooBig(rights[k])
-                        || isTooBig(Terms.filled(terms, lefts[k], single, 0))
-                        || isTooBig(Terms.filled(terms, rights[k], single, 0)))) {
+                int left = Terms.filled(terms, lefts[k], single, 0);
+                int right = Terms.filled(terms, rights[k], single, 0);
+                if (k != place && (left != lefts[k] && isTooBig(left) || right != rights[k] && isTooBig(right))) {
                     state = GREAT;
                     return;
                 }

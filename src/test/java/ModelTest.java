@@ -25,9 +25,9 @@ public final class ModelTest {
             seen.forEach((what, times) -> System.out.println(times + " " + what));
         }
         String[] due = {"unify !", "stays -9", "step 0 GREAT", "ways -9", "way !", "term -9", "common -9", "deep -9",
-            "deep throws", "ways many", "steps 20", "stays 0", "stays 1", "stays 2"};
+            "deep throws", "ways many", "steps 20", "stays 0", "stays 1", "stays 2", "big sides left"};
         for (String each : due) {
-            if (args.length == 0 && !seen.containsKey(each)) {
+            if (args.length == 0 && seen.getOrDefault(each, 0) == 0) {
                 wrong++;
                 System.out.println("never met: " + each);
             }
@@ -66,6 +66,7 @@ public final class ModelTest {
             if (isGood) {
                 same("digest()", desk::digest, model::digest);
             }
+            seen.merge("big sides left", model.bigLeft, Integer::sum);
         }
 
         void same(String call, Supplier<Object> got, Supplier<Object> due) {
@@ -244,6 +245,31 @@ public final class ModelTest {
             solveAll(1);
         }
 
+        /** Pairs with much in one part, and names in the others that are put for each other. */
+        void besideScene() {
+            same("clear()", desk::clear, model::clear);
+            int three = made(3, below(2), below(4) == 0 ? 3 : below(2));
+            int seven = made(3, three, three);
+            int much = made(3, made(3, seven, below(3) == 0 ? three : seven), seven);
+            equalBoth(2, much);
+            int twice = made(3, 2, below(4) == 0 ? leaf() : 2);
+            for (int i = 0; i < 4; i++) {
+                int left = made(3, beside(), made(3, beside(), beside()));
+                int right = made(3, below(2) == 0 ? twice : beside(), made(3, beside(), below(2) == 0 ? twice : beside()));
+                int one = below(2) == 0 ? left : right;
+                int other = one == left ? right : left;
+                same("unlike(" + one + "," + other + ")", () -> desk.unlike(one, other), () -> model.unlike(one, other));
+            }
+            solveAll(1);
+        }
+
+        /** A name, or what has it, that the row leaves as it is. */
+        int beside() {
+            int name = 5 + below(3);
+            int dice = below(9);
+            return dice < 6 ? name : dice < 7 ? below(2) : dice < 8 ? made(2, name, 0) : made(3, name, 5 + below(3));
+        }
+
         /** Many equations of like shape, so that there are steps without end in sight. */
         void longScene() {
             same("clear()", desk::clear, model::clear);
@@ -308,6 +334,8 @@ public final class ModelTest {
                     doubledScene();
                 } else if (kind == 2 || kind == 3) {
                     turnedScene();
+                } else if (below(4) == 0) {
+                    besideScene();
                 } else if (below(3) == 0) {
                     grownScene();
                 } else if (below(4) == 0) {
@@ -613,6 +641,8 @@ public final class ModelTest {
         private final List<State> past = new ArrayList<>();
         private int blanks;
         private int knocks;
+        /** How often RULE 6 left a side of over 40 letters as it was. */
+        int bigLeft;
 
         Model() {
             for (char head : "abxyzuvw".toCharArray()) {
@@ -881,13 +911,20 @@ public final class ModelTest {
                 for (int i = 0; i < row.size(); i++) {
                     if (i != k) {
                         fresh.set(i, new Equation(row.get(i).left().filled(by), row.get(i).right().filled(by)));
-                        if (fresh.get(i).left().size() > 40 || fresh.get(i).right().size() > 40) {
+                        if (isGrownTooBig(row.get(i).left(), left.head(), by) || isGrownTooBig(row.get(i).right(), left.head(), by)) {
                             return null;
                         }
                     }
                 }
             }
             return fresh;
+        }
+
+        private boolean isGrownTooBig(Term side, char name, Map<Character, Term> by) {
+            if (!side.has(name) && side.size() > 40) {
+                bigLeft++;
+            }
+            return side.has(name) && side.filled(by).size() > 40;
         }
 
         private Ended solve(Term one, Term other) {

@@ -83,6 +83,9 @@ public final class PromisesTest {
         equation();
         solved();
         stays();
+        staysAtForty();
+        staysWithFarSides();
+        staysWithALeftSide();
         unify();
         why();
         match();
@@ -562,14 +565,73 @@ public final class PromisesTest {
         due(great.stays(0), -9);
         due(great.stays(1), 0);
         due(great.stays(2), 2);
-        // RULE 6 for z, while another side has more than 40 already.
+        // RULE 6 for z, while another side has 45 letters already: it counts only if z stands there.
         Matchmakingdesk ahead = new Matchmakingdesk();
         ahead.equal(2, of(ahead, fs(21, "a")));
         ahead.unlike(of(ahead, "g(g(z,z),g(x,x))"), of(ahead, "g(g(u,a),w)"));
         ahead.unlike(of(ahead, "g(z,g(x,x))"), of(ahead, "g(u,w)"));
+        ahead.unlike(of(ahead, "g(z,g(z,g(x,x)))"), of(ahead, "g(u,w)"));
+        ahead.unlike(of(ahead, "g(g(z,z),g(x,x))"), of(ahead, "g(g(u,a),g(w,b))"));
         ahead.steps(20);
-        due(ahead.stays(0), -9);
+        due(ahead.stays(0), 0);
         due(ahead.stays(1), 0);
+        due(ahead.stays(2), -9);
+        due(ahead.stays(3), 1);
+    }
+
+    private static void staysAtForty() {
+        promise = 20;
+        // g(T,g(T,z)) has 39 letters; with f(a) for z it has 40, with f(f(a)) 41.
+        Matchmakingdesk desk = new Matchmakingdesk();
+        desk.equal(2, of(desk, fs(17, "a")));
+        int twice = of(desk, "g(z,g(x,g(x,z)))");
+        desk.unlike(twice, of(desk, "g(a,w)"));
+        desk.unlike(twice, of(desk, "g(f(a),w)"));
+        desk.unlike(twice, of(desk, "g(f(f(a)),w)"));
+        desk.unlike(twice, of(desk, "g(u,w)"));
+        desk.steps(20);
+        due(desk.stays(0), 0);
+        due(desk.stays(1), 0);
+        due(desk.stays(2), -9);
+        due(desk.stays(3), 0);
+    }
+
+    private static void staysWithFarSides() {
+        promise = 20;
+        // f^20(x) has 41 letters, as far below each other as the terms that are kept let it be.
+        Matchmakingdesk desk = new Matchmakingdesk();
+        desk.equal(2, of(desk, fs(20, "y")));
+        int far = of(desk, fs(20, "x"));
+        desk.unlike(far, 4);
+        desk.unlike(4, far);
+        desk.unlike(far, 3);
+        desk.unlike(far, of(desk, fs(19, "x")));
+        desk.unlike(far, 0);
+        desk.unlike(far, far);
+        due(desk.house(0), 48);
+        desk.steps(20);
+        due(desk.stays(0), 0);
+        due(desk.stays(1), 0);
+        due(desk.stays(2), 1);
+        due(desk.stays(3), 1);
+        due(desk.stays(4), 1);
+        due(desk.stays(5), 2);
+    }
+
+    private static void staysWithALeftSide() {
+        promise = 20;
+        // The run that was told as a fault: y has no place in u=g(T,T).
+        Matchmakingdesk desk = new Matchmakingdesk();
+        desk.equal(2, of(desk, "g(g(g(a,a),g(a,a)),g(g(g(a,a),g(a,a)),g(g(a,a),g(a,a))))"));
+        desk.unlike(of(desk, "g(g(u,y),y)"), of(desk, "g(g(g(x,x),a),a)"));
+        desk.unlike(of(desk, "g(g(g(x,x),a),a)"), of(desk, "g(g(u,y),y)"));
+        desk.unlike(of(desk, "g(g(u,y),y)"), of(desk, "g(g(g(x,x),a),b)"));
+        desk.unlike(of(desk, "g(g(u,y),u)"), of(desk, "g(g(g(x,x),a),a)"));
+        due(desk.step(), 0);
+        due(desk.stays(0), 0);
+        due(desk.stays(1), 0);
+        due(desk.stays(2), 1);
+        due(desk.stays(3), -9);
     }
 
     private static void unify() {
