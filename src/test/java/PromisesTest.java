@@ -1,66 +1,5 @@
-import java.util.NoSuchElementException;
-import java.util.function.Supplier;
-
 /** Promise by promise: ordinary calls, the edges that the document names, and wrong ones. */
-public final class PromisesTest {
-
-    private static int wrong = 0;
-    private static int promise = 0;
-
-    private static void due(Object got, Object want) {
-        if (!want.equals(got)) {
-            wrong++;
-            System.out.println("promise " + promise + ": " + got + ", due is " + want);
-        }
-    }
-
-    /** The call throws just that, and changes nothing. */
-    private static void refused(Matchmakingdesk desk, Class<?> kind, Supplier<Object> call) {
-        long before = desk.digest();
-        String got = "nothing";
-        try {
-            call.get();
-        } catch (RuntimeException e) {
-            got = e.getClass().getSimpleName();
-        }
-        due(got, kind.getSimpleName());
-        due(desk.digest(), before);
-    }
-
-    private static final Class<?> ARGUMENT = IllegalArgumentException.class;
-    private static final Class<?> BOUNDS = IndexOutOfBoundsException.class;
-    private static final Class<?> STATE = IllegalStateException.class;
-    private static final Class<?> ELEMENT = NoSuchElementException.class;
-
-    // ---- terms by their texts
-
-    private static int at;
-
-    private static int of(Matchmakingdesk desk, String text) {
-        at = 0;
-        return read(desk, text);
-    }
-
-    private static int read(Matchmakingdesk desk, String text) {
-        char head = text.charAt(at++);
-        if ("abxyzuvw".indexOf(head) >= 0) {
-            return "abxyzuvw".indexOf(head);
-        }
-        at++;
-        int first = read(desk, text);
-        int second = 0;
-        if (head != 'f') {
-            at++;
-            second = read(desk, text);
-        }
-        at++;
-        return desk.term("abfgc".indexOf(head), first, second);
-    }
-
-    /** f(f(..x..)) with so many signs f. */
-    private static String fs(int count, String within) {
-        return "f(".repeat(count) + within + ")".repeat(count);
-    }
+public final class PromisesTest extends Checks {
 
     public static void main(String[] args) {
         newObject();
@@ -106,12 +45,11 @@ public final class PromisesTest {
         house();
         isSound();
         digest();
-        System.out.println(wrong == 0 ? "all promises kept" : wrong + " wrong");
-        System.exit(wrong == 0 ? 0 : 1);
+        end("all promises kept");
     }
 
     private static void newObject() {
-        promise = 1;
+        about("promise 1");
         Matchmakingdesk desk = new Matchmakingdesk();
         due(desk.house(0), 8);
         for (int what = 1; what <= 8; what++) {
@@ -127,7 +65,7 @@ public final class PromisesTest {
     }
 
     private static void term() {
-        promise = 2;
+        about("promise 2");
         Matchmakingdesk desk = new Matchmakingdesk();
         due(desk.term(2, 2, -7), 8);
         due(desk.term(3, 8, 3), 9);
@@ -156,7 +94,7 @@ public final class PromisesTest {
     }
 
     private static void put() {
-        promise = 3;
+        about("promise 3");
         Matchmakingdesk desk = new Matchmakingdesk();
         int into = of(desk, "g(x,f(x))");
         int by = of(desk, "c(x,y)");
@@ -187,7 +125,7 @@ public final class PromisesTest {
     }
 
     private static void text() {
-        promise = 4;
+        about("promise 4");
         Matchmakingdesk desk = new Matchmakingdesk();
         due(desk.text(of(desk, "g(c(a,f(w)),f(g(b,x)))")), "g(c(a,f(w)),f(g(b,x)))");
         refused(desk, BOUNDS, () -> desk.text(-1));
@@ -195,7 +133,7 @@ public final class PromisesTest {
     }
 
     private static void ofTerm() {
-        promise = 5;
+        about("promise 5");
         Matchmakingdesk desk = new Matchmakingdesk();
         int term = of(desk, "g(g(x,z),c(f(z),z))");
         int[] due = {3, 8, 6, 4, 5, of(desk, "g(x,z)"), of(desk, "c(f(z),z)")};
@@ -221,7 +159,7 @@ public final class PromisesTest {
     }
 
     private static void part() {
-        promise = 6;
+        about("promise 6");
         Matchmakingdesk desk = new Matchmakingdesk();
         int term = of(desk, "g(c(f(x),a),f(y))");
         String[] order = {"g(c(f(x),a),f(y))", "c(f(x),a)", "f(x)", "x", "a", "f(y)", "y"};
@@ -235,7 +173,7 @@ public final class PromisesTest {
     }
 
     private static void fill() {
-        promise = 7;
+        about("promise 7");
         Matchmakingdesk desk = new Matchmakingdesk();
         due(desk.fill(0, 1), 1);
         due(desk.fill(5, 7), 2);
@@ -248,7 +186,7 @@ public final class PromisesTest {
     }
 
     private static void unfill() {
-        promise = 8;
+        about("promise 8");
         Matchmakingdesk desk = new Matchmakingdesk();
         desk.fill(0, 0);
         desk.fill(1, 3);
@@ -260,7 +198,7 @@ public final class PromisesTest {
     }
 
     private static void fills() {
-        promise = 9;
+        about("promise 9");
         Matchmakingdesk desk = new Matchmakingdesk();
         due(desk.fills(), "");
         desk.fill(2, of(desk, "f(x)"));
@@ -272,7 +210,7 @@ public final class PromisesTest {
     }
 
     private static void once() {
-        promise = 10;
+        about("promise 10");
         Matchmakingdesk desk = new Matchmakingdesk();
         int term = of(desk, "g(x,g(y,z))");
         due(desk.once(term), term);
@@ -289,7 +227,7 @@ public final class PromisesTest {
     }
 
     private static void deep() {
-        promise = 11;
+        about("promise 11");
         Matchmakingdesk desk = new Matchmakingdesk();
         int term = of(desk, "g(x,z)");
         due(desk.deep(term), term);
@@ -316,7 +254,7 @@ public final class PromisesTest {
     }
 
     private static void rings() {
-        promise = 12;
+        about("promise 12");
         Matchmakingdesk desk = new Matchmakingdesk();
         due(desk.rings(), "-");
         desk.fill(0, of(desk, "f(y)"));
@@ -333,7 +271,7 @@ public final class PromisesTest {
     }
 
     private static void equal() {
-        promise = 13;
+        about("promise 13");
         Matchmakingdesk desk = new Matchmakingdesk();
         due(desk.equal(2, 0), 1);
         desk.steps(5);
@@ -365,7 +303,7 @@ public final class PromisesTest {
     }
 
     private static void unlike() {
-        promise = 14;
+        about("promise 14");
         Matchmakingdesk desk = new Matchmakingdesk();
         for (int count = 1; count <= 6; count++) {
             due(desk.unlike(2, count), count);
@@ -376,7 +314,7 @@ public final class PromisesTest {
     }
 
     private static void step() {
-        promise = 15;
+        about("promise 15");
         Matchmakingdesk desk = new Matchmakingdesk();
         desk.equal(of(desk, "g(f(x),y)"), of(desk, "g(y,f(a))"));
         desk.equal(2, 2);
@@ -440,7 +378,7 @@ public final class PromisesTest {
     }
 
     private static void steps() {
-        promise = 16;
+        about("promise 16");
         Matchmakingdesk desk = new Matchmakingdesk();
         desk.equal(2, 3);
         desk.equal(2, 4);
@@ -493,7 +431,7 @@ public final class PromisesTest {
     }
 
     private static void clear() {
-        promise = 17;
+        about("promise 17");
         Matchmakingdesk desk = new Matchmakingdesk();
         due(desk.clear(), 0);
         desk.equal(0, 1);
@@ -508,7 +446,7 @@ public final class PromisesTest {
     }
 
     private static void equation() {
-        promise = 18;
+        about("promise 18");
         Matchmakingdesk desk = new Matchmakingdesk();
         desk.equal(of(desk, "g(f(x),c(w,b))"), 2);
         desk.equal(0, 0);
@@ -519,7 +457,7 @@ public final class PromisesTest {
     }
 
     private static void solved() {
-        promise = 19;
+        about("promise 19");
         Matchmakingdesk desk = new Matchmakingdesk();
         refused(desk, STATE, () -> desk.solved(0));
         refused(desk, ARGUMENT, () -> desk.solved(6));
@@ -535,7 +473,7 @@ public final class PromisesTest {
     }
 
     private static void stays() {
-        promise = 20;
+        about("promise 20");
         Matchmakingdesk desk = new Matchmakingdesk();
         int fx = of(desk, "f(x)");
         desk.unlike(fx, of(desk, "f(y)"));
@@ -580,7 +518,7 @@ public final class PromisesTest {
     }
 
     private static void staysAtForty() {
-        promise = 20;
+        about("promise 20");
         // g(T,g(T,z)) has 39 letters; with f(a) for z it has 40, with f(f(a)) 41.
         Matchmakingdesk desk = new Matchmakingdesk();
         desk.equal(2, of(desk, fs(17, "a")));
@@ -597,7 +535,7 @@ public final class PromisesTest {
     }
 
     private static void staysWithFarSides() {
-        promise = 20;
+        about("promise 20");
         // f^20(x) has 41 letters, as far below each other as the terms that are kept let it be.
         Matchmakingdesk desk = new Matchmakingdesk();
         desk.equal(2, of(desk, fs(20, "y")));
@@ -619,7 +557,7 @@ public final class PromisesTest {
     }
 
     private static void staysWithALeftSide() {
-        promise = 20;
+        about("promise 20");
         // The run that was told as a fault: y has no place in u=g(T,T).
         Matchmakingdesk desk = new Matchmakingdesk();
         desk.equal(2, of(desk, "g(g(g(a,a),g(a,a)),g(g(g(a,a),g(a,a)),g(g(a,a),g(a,a))))"));
@@ -635,7 +573,7 @@ public final class PromisesTest {
     }
 
     private static void unify() {
-        promise = 21;
+        about("promise 21");
         Matchmakingdesk desk = new Matchmakingdesk();
         due(desk.unify(of(desk, "g(y,f(x))"), of(desk, "g(f(x),f(a))")), "x=a;y=f(a)");
         due(desk.unify(2, 3), "x=y");
@@ -657,7 +595,7 @@ public final class PromisesTest {
     }
 
     private static void why() {
-        promise = 22;
+        about("promise 22");
         Matchmakingdesk desk = new Matchmakingdesk();
         due(desk.why(of(desk, "g(x,f(b))"), of(desk, "g(a,c(x,x))")), "clash f c");
         due(desk.why(of(desk, "g(x,x)"), of(desk, "g(a,b)")), "clash a b");
@@ -670,7 +608,7 @@ public final class PromisesTest {
     }
 
     private static void match() {
-        promise = 23;
+        about("promise 23");
         Matchmakingdesk desk = new Matchmakingdesk();
         due(desk.match(of(desk, "g(y,x)"), of(desk, "g(f(y),x)")), "x=x;y=f(y)");
         due(desk.match(of(desk, "g(x,x)"), of(desk, "g(a,b)")), "-");
@@ -684,7 +622,7 @@ public final class PromisesTest {
     }
 
     private static void cases() {
-        promise = 24;
+        about("promise 24");
         Matchmakingdesk desk = new Matchmakingdesk();
         int gxy = of(desk, "g(x,y)");
         int gyx = of(desk, "g(y,x)");
@@ -714,7 +652,7 @@ public final class PromisesTest {
     }
 
     private static void isTurned() {
-        promise = 25;
+        about("promise 25");
         Matchmakingdesk desk = new Matchmakingdesk();
         due(desk.isTurned(of(desk, "c(a,g(c(x,b),y))"), of(desk, "c(g(c(b,x),y),a)")), true);
         due(desk.isTurned(of(desk, "g(a,b)"), of(desk, "g(b,a)")), false);
@@ -727,7 +665,7 @@ public final class PromisesTest {
     }
 
     private static void isEndless() {
-        promise = 26;
+        about("promise 26");
         Matchmakingdesk desk = new Matchmakingdesk();
         due(desk.isEndless(2, of(desk, "f(x)")), true);
         due(desk.isEndless(of(desk, "g(x,x)"), of(desk, "g(f(x),f(f(x)))")), true);
@@ -742,7 +680,7 @@ public final class PromisesTest {
     }
 
     private static void ways() {
-        promise = 27;
+        about("promise 27");
         Matchmakingdesk desk = new Matchmakingdesk();
         due(desk.ways(of(desk, "c(x,y)"), of(desk, "c(a,b)")), 2);
         due(desk.ways(of(desk, "c(x,a)"), of(desk, "c(a,b)")), 1);
@@ -786,7 +724,7 @@ public final class PromisesTest {
     }
 
     private static void way() {
-        promise = 28;
+        about("promise 28");
         Matchmakingdesk desk = new Matchmakingdesk();
         int one = of(desk, "c(x,y)");
         int other = of(desk, "c(a,b)");
@@ -817,7 +755,7 @@ public final class PromisesTest {
     }
 
     private static void common() {
-        promise = 29;
+        about("promise 29");
         Matchmakingdesk desk = new Matchmakingdesk();
         int one = of(desk, "g(f(a),g(a,b))");
         int other = of(desk, "g(f(b),g(b,a))");
@@ -848,7 +786,7 @@ public final class PromisesTest {
     }
 
     private static void lay() {
-        promise = 30;
+        about("promise 30");
         Matchmakingdesk desk = new Matchmakingdesk();
         for (int count = 1; count <= 10; count++) {
             due(desk.lay(count % 3), count);
@@ -860,7 +798,7 @@ public final class PromisesTest {
     }
 
     private static void lift() {
-        promise = 31;
+        about("promise 31");
         Matchmakingdesk desk = new Matchmakingdesk();
         desk.lay(5);
         desk.lay(6);
@@ -875,7 +813,7 @@ public final class PromisesTest {
     }
 
     private static void shelf() {
-        promise = 32;
+        about("promise 32");
         Matchmakingdesk desk = new Matchmakingdesk();
         desk.lay(7);
         desk.lay(7);
@@ -885,7 +823,7 @@ public final class PromisesTest {
     }
 
     private static void ask() {
-        promise = 33;
+        about("promise 33");
         Matchmakingdesk desk = new Matchmakingdesk();
         desk.lay(of(desk, "c(x,a)"));
         desk.lay(of(desk, "c(a,x)"));
@@ -917,7 +855,7 @@ public final class PromisesTest {
     }
 
     private static void commonOfAll() {
-        promise = 34;
+        about("promise 34");
         Matchmakingdesk desk = new Matchmakingdesk();
         refused(desk, ELEMENT, () -> desk.commonOfAll());
         desk.lay(of(desk, "g(w,f(w))"));
@@ -945,7 +883,7 @@ public final class PromisesTest {
     }
 
     private static void undo() {
-        promise = 35;
+        about("promise 35");
         Matchmakingdesk desk = new Matchmakingdesk();
         refused(desk, STATE, () -> desk.undo());
         desk.fill(0, 1);
@@ -1031,7 +969,7 @@ public final class PromisesTest {
     }
 
     private static void blank() {
-        promise = 36;
+        about("promise 36");
         Matchmakingdesk desk = new Matchmakingdesk();
         due(desk.blank(), -9);
         due(desk.blank(), -9);
@@ -1040,7 +978,7 @@ public final class PromisesTest {
     }
 
     private static void knock() {
-        promise = 37;
+        about("promise 37");
         Matchmakingdesk desk = new Matchmakingdesk();
         due(desk.knock(), 1);
         due(desk.knock(), 2);
@@ -1049,7 +987,7 @@ public final class PromisesTest {
     }
 
     private static void house() {
-        promise = 38;
+        about("promise 38");
         Matchmakingdesk desk = new Matchmakingdesk();
         desk.term(2, 0, 0);
         desk.fill(0, 2);
@@ -1079,7 +1017,7 @@ public final class PromisesTest {
     }
 
     private static void isSound() {
-        promise = 39;
+        about("promise 39");
         Matchmakingdesk desk = new Matchmakingdesk();
         due(desk.isSound(), true);
         desk.equal(of(desk, "g(f(x),y)"), of(desk, "g(y,f(a))"));
@@ -1091,7 +1029,7 @@ public final class PromisesTest {
     }
 
     private static void digest() {
-        promise = 40;
+        about("promise 40");
         Matchmakingdesk desk = new Matchmakingdesk();
         due(desk.digest(), slowDigest(desk));
         desk.fill(0, of(desk, "g(y,f(a))"));
