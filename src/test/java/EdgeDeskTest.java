@@ -168,6 +168,25 @@ public final class EdgeDeskTest extends Checks {
         due(apart.ask(2, 0), 1);
         due(apart.ask(2, 1), 1);
         due(apart.ask(2, 2), 0);
+        for (int name = 2; name < 8; name++) {
+            Matchmakingdesk each = new Matchmakingdesk();
+            each.lay(each.term(2, name, 0));
+            each.lay(each.term(3, name, name));
+            each.lay(each.term(3, name, each.shelf(0)));
+            each.lay(each.term(4, name, 9 - name));
+            due(each.ask(name, 0), 15);
+            due(each.ask(of(each, "g(a,b)"), 0), 0);
+            due(each.ask(each.term(3, 9 - name, 9 - name), 0), 2);
+            due(each.ask(each.term(4, 9 - name, name), 0), 8);
+        }
+        about("ask(): twelve NAMES, six of each");
+        Matchmakingdesk twelve = new Matchmakingdesk();
+        twelve.lay(of(twelve, "g(x,g(y,g(z,g(u,g(v,w)))))"));
+        twelve.lay(of(twelve, "g(w,g(v,g(u,g(z,g(y,x)))))"));
+        twelve.lay(of(twelve, "g(x,g(x,g(x,g(x,g(x,f(x))))))"));
+        due(twelve.ask(twelve.shelf(0), 0), 7);
+        due(twelve.ask(twelve.shelf(1), 0), 7);
+        due(twelve.ask(of(twelve, "g(x,g(x,g(x,g(x,g(x,x)))))"), 0), 3);
     }
 
     private static void commonOfTheShelf() {
@@ -361,6 +380,33 @@ public final class EdgeDeskTest extends Checks {
         due(desk.undo(), 1);
         due(desk.house(4), 0);
         refused(desk, STATE, () -> desk.solved(0));
+        about("undo(): then solved() and stays() are of the row as it was");
+        Matchmakingdesk rows = new Matchmakingdesk();
+        rows.unlike(3, 1);
+        rows.equal(2, 0);
+        rows.step();
+        rows.equal(3, 1);
+        rows.step();
+        due(rows.solved(1), "b");
+        due(rows.stays(0), 2);
+        rows.undo();
+        rows.undo();
+        due(rows.solved(1), "y");
+        rows.equal(3, 0);
+        rows.step();
+        rows.undo();
+        rows.undo();
+        due(rows.stays(0), 0);
+        about("clear(): then the row starts anew");
+        rows.clear();
+        due(rows.equal(7, 0), 1);
+        due(row(rows), "w=a");
+        due(rows.equal(6, 1), 2);
+        due(row(rows), "w=a v=b");
+        rows.undo();
+        rows.undo();
+        rows.undo();
+        due(row(rows), "x=a");
         about("undo(): a long row is as ahead of it");
         Matchmakingdesk row = new Matchmakingdesk();
         int left = of(row, "g(c(x,f(y)),g(f(f(z)),u))");

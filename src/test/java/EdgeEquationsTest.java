@@ -439,7 +439,7 @@ public final class EdgeEquationsTest extends Checks {
             refused(desk, BOUNDS, () -> desk.equation(-1));
         }
         due(desk.equation(0), "b=x");
-        about("equation(): sides of 25 letters, of 40 letters");
+        about("equation(): sides of 25 letters");
         String wide = "g(" + fs(11, "x") + "," + fs(11, "y") + ")";
         Matchmakingdesk big = with(wide, wide.replace('x', 'z'));
         due(big.equation(0), wide + "=" + wide.replace('x', 'z'));

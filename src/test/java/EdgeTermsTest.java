@@ -148,8 +148,10 @@ public final class EdgeTermsTest extends Checks {
         nine(last, () -> last.put(46, 2, 0));
         due(last.house(0), 47);
         due(last.term(2, 0, 0), 47);
+        due(last.house(0), 48);
         nine(last, () -> last.put(46, 2, 0));
         due(last.put(of(last, "f(z)"), 2, 0), 47);
+        due(last.house(0), 48);
     }
 
     private static void atMost25() {

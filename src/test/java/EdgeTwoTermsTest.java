@@ -23,6 +23,7 @@ public final class EdgeTwoTermsTest extends Checks {
         inCommon();
         sixNamesInCommon();
         noSuchTerms();
+        oneCallLeavesNothing();
         end("two terms keep their edges");
     }
 
@@ -236,6 +237,11 @@ public final class EdgeTwoTermsTest extends Checks {
         due(cases("c(c(x,x),c(y,y))", "c(c(a,b),c(b,b))", true), 0);
         due(cases("g(c(x,y),c(x,f(y)))", "g(c(a,b),c(b,f(a)))", true), 1);
         due(cases("g(c(x,y),c(x,f(y)))", "g(c(a,b),c(f(b),f(a)))", true), 0);
+        due(cases("g(c(x,y),f(x))", "g(c(a,b),f(b))", true), 1);
+        due(cases("g(c(x,y),f(x))", "g(c(a,b),f(c(a,b)))", true), 0);
+        due(cases("g(x,f(x))", "g(f(a),f(f(a)))", true), 1);
+        due(cases("g(x,c(x,f(x)))", "g(c(a,b),c(f(c(b,a)),c(b,a)))", true), 1);
+        due(cases("g(x,c(x,f(x)))", "g(c(a,b),c(f(c(b,b)),c(b,a)))", true), 0);
     }
 
     // ---- ENDLESS
@@ -354,8 +360,16 @@ public final class EdgeTwoTermsTest extends Checks {
         due(ways("c(f(x),f(y))", "c(z,z)"), "y=x;z=f(x)");
         about("WAYS: for all these NAMES at once, by the same FILLING");
         due(ways("g(c(x,y),c(x,z))", "g(c(a,b),c(a,b))"), "x=a;y=b;z=b | x=b;y=a;z=a");
+        due(ways("c(c(z,u),c(u,v))", "c(c(w,c(a,g(x,x))),w)"), "z=c(c(a,g(x,x)),v);u=c(a,g(x,x));w=c(c(a,g(x,x)),v)"
+                + " | u=c(a,g(x,x));v=c(z,c(a,g(x,x)));w=c(z,c(a,g(x,x)))");
         about("WAYS: a NAME that stands in one TERM alone counts, too");
         due(ways("c(x,f(y))", "c(f(a),z)"), "x=f(a);z=f(y) | x=z;y=a");
+        about("WAYS: each NAME counts, the first one and the last one: the WAY that leaves it as it is stays");
+        for (int name = 0; name < 6; name++) {
+            char one = "xyzuvw".charAt(name);
+            char other = "xyzuvw".charAt((name + 1) % 6);
+            due(ways("c(" + one + "," + other + ")", "c(a," + one + ")"), other + "=a");
+        }
     }
 
     private static void numbersOfWays() {
@@ -465,5 +479,46 @@ public final class EdgeTwoTermsTest extends Checks {
             due(desk.way(last, last, 0), "");
             due(desk.common(last, last), last == 7 ? 2 : of(desk, "c(x,y)"));
         }
+    }
+
+    /** What is asked of two TERMS, by numbers from 0. */
+    private static Object asked(Matchmakingdesk desk, int what, int one, int other) {
+        switch (what) {
+            case 0: return desk.unify(one, other);
+            case 1: return desk.why(one, other);
+            case 2: return desk.match(one, other);
+            case 3: return desk.cases(one, other, false);
+            case 4: return desk.cases(one, other, true);
+            case 5: return desk.isTurned(one, other);
+            case 6: return desk.isEndless(one, other);
+            case 7: return desk.ways(one, other);
+            default: return answerOf(() -> desk.way(one, other, 0));
+        }
+    }
+
+    private static void oneCallLeavesNothing() {
+        about("what one call answers does not hang on those ahead of it");
+        String by = fs(11, "z");
+        String[] texts = {"c(x,y)", "c(a,b)", "x", "a", "g(y,x)", "g(" + by + "," + threeYs(3) + ")", "c(x,f(x))", "c(c(z,a),x)",
+            EIGHT, EIGHT_MET};
+        for (int what = 0; what <= 8; what++) {
+            Matchmakingdesk upward = new Matchmakingdesk();
+            Matchmakingdesk downward = new Matchmakingdesk();
+            int[] numbers = new int[texts.length];
+            for (int i = 0; i < texts.length; i++) {
+                numbers[i] = of(upward, texts[i]);
+                due(of(downward, texts[i]), numbers[i]);
+            }
+            for (int pair = 0; pair < 100; pair++) {
+                int back = 99 - pair;
+                due(asked(upward, what, numbers[pair / 10], numbers[pair % 10]), askedAnew(what, texts[pair / 10], texts[pair % 10]));
+                due(asked(downward, what, numbers[back % 10], numbers[back / 10]), askedAnew(what, texts[back % 10], texts[back / 10]));
+            }
+        }
+    }
+
+    private static Object askedAnew(int what, String one, String other) {
+        Matchmakingdesk fresh = new Matchmakingdesk();
+        return asked(fresh, what, of(fresh, one), of(fresh, other));
     }
 }
